@@ -551,11 +551,11 @@ public final class OptimalLines {
             tolerance = toleranceOfPass;
             extraStretch = extraStretchOfPass;
             Arrays.fill(endSums, NEVER);
-            Arrays.fill(sums, NEVER);
+            forget(sums);
             sums[FITNESS_AT_START] = 0;
             boolean goesOn = tolerance >= 0;
             for (int line = 0; line < MOST_LINES && goesOn; line++) {
-                Arrays.fill(nextSums, NEVER);
+                forget(nextSums);
                 goesOn = false;
                 for (int from = 0; from < breaks.last; from++) {
                     if (findEntries(line, from)) {
@@ -603,6 +603,13 @@ public final class OptimalLines {
             }
         }
 
+        /** Stops behind the END, since short paragraphs are many and the row is long. */
+        private void forget(long[] row) {
+            for (int state = 0; state < (breaks.last + 1) * FITNESSES; state++) {
+                row[state] = NEVER;
+            }
+        }
+
         private static boolean isNearer(int lines, int other, int wish) {
             int distance = Math.abs(lines - wish);
             int otherDistance = Math.abs(other - wish);
@@ -612,9 +619,11 @@ public final class OptimalLines {
         /** Whether some way of so many lines ends at the break, so that one more may follow. */
         private boolean findEntries(int line, int from) {
             boolean some = false;
-            Arrays.fill(entrySums, NEVER);
             for (int before = 0; before < FITNESSES; before++) {
                 if (sums[from * FITNESSES + before] != NEVER) {
+                    if (!some) {
+                        Arrays.fill(entrySums, NEVER);
+                    }
                     some = true;
                     offerEntries(line, from, before);
                 }

@@ -20,7 +20,7 @@ public final class ModelTest {
     }
 
     public static void main(String[] args) {
-        for (int seed = 0; seed < 20000 && Check.wrong() < 20; seed++) {
+        for (int seed = 0; seed < 15000 && Check.wrong() < 20; seed++) {
             new ModelTest("small", seed, false).small();
         }
         for (int seed = 0; seed < 1500 && Check.wrong() < 20; seed++) {
@@ -32,6 +32,7 @@ public final class ModelTest {
         }
         for (int seed = 0; seed < 300 && Check.wrong() < 20; seed++) {
             new ModelTest("many lines", seed, true).manyLines();
+            new ModelTest("extremes", seed, true).extremes();
         }
         System.out.println("passes 1 to 4: " + passes[1] + " " + passes[2] + " " + passes[3] + " " + passes[4]
                 + ", ties " + ties + ", loosened " + loosened + ", skipped " + skipped);
@@ -137,6 +138,23 @@ public final class ModelTest {
         width(random.nextInt(41), pick(40, 60));
         askAll();
         setting(7, pick(-3, 3));
+        askAll();
+    }
+
+    private void extremes() {
+        int items = pick(20, 100, 400);
+        while (count < items) {
+            switch (random.nextInt(4)) {
+                case 0, 1 -> box(pick(0, 50000, 100000, 100000));
+                case 2 -> glue(pick(0, 100000), pick(0, 1, 100000), pick(0, 7, 100000), pick(0, 0, 0, 1, 100));
+                default -> penalty(pick(0, 100000), pick(-9999, -3, 0, 9999, 10000), random.nextBoolean());
+            }
+        }
+        width(0, pick(300000, 1000000));
+        width(pick(1, 5, 40), pick(1, 500000, 1000000));
+        setting(pick(4, 5), 10000);
+        setting(6, pick(0, 100000));
+        setting(pick(0, 1, 2, 3), 1000);
         askAll();
     }
 
