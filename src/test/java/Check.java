@@ -6,10 +6,16 @@ final class Check {
     static final String ARGUMENT = "throws.IllegalArgumentException";
     static final String INDEX = "throws.IndexOutOfBoundsException";
 
+    private static String heading = "";
     private static int wrong = 0;
     private static int asked = 0;
 
     private Check() {
+    }
+
+    /** What is found wrong from here on is told under this heading. */
+    static void begin(String newHeading) {
+        heading = newHeading + ": ";
     }
 
     /** The class's own name is told, so that an exception of the machine never passes for the document's. */
@@ -33,7 +39,7 @@ final class Check {
         asked++;
         if (!got.equals(due)) {
             wrong++;
-            System.out.println(label + " answered " + got + ", due is " + due);
+            System.out.println(heading + label + " answered " + got + ", due is " + due);
         }
     }
 
@@ -44,6 +50,10 @@ final class Check {
 
     static int wrong() {
         return wrong;
+    }
+
+    static int asked() {
+        return asked;
     }
 
     static void finish(String name) {
