@@ -11,6 +11,17 @@ final class PassCases {
         text.clear().slack(-298).breaksAt(3).passIs(4);
     }
 
+    @Sentence(promise = 8, says = "FEASIBLE .. if no line is TOO LONG: behind breaks at which it would be")
+    static void lineMayFitAgainBehindABreak() {
+        fittingAgain(new Text()).breaksAt(5).passIs(1).demeritsAre(14 * 14);
+    }
+
+    @Sentence(promise = 8, says = "FEASIBLE .. if no line is TOO LONG: whatever was broken before")
+    static void lineMayFitAgainAfterAnotherText() {
+        Text text = new Text().box(5000).glue(0, 0, 0, 0).box(5000).breaksAt(1, 3);
+        fittingAgain(text.clear()).breaksAt(5).passIs(1).demeritsAre(14 * 14);
+    }
+
     @Sentence(promise = 8, says = "the badness of each is at most the tolerance: the pretolerance")
     static void badnessMayBeThePretolerance() {
         Text text = new Text().slack(297).set(Text.TOLERANCE, -1);
@@ -310,6 +321,11 @@ final class PassCases {
         text.set(Text.EMERGENCY, 1000).breaksAt(1).passIs(3);
         text.set(Text.TOLERANCE, 10_000).breaksAt(1).passIs(2);
         text.set(Text.PRETOLERANCE, 10_000).breaksAt(1).passIs(1);
+    }
+
+    /** Its only line shrinks enough by what stands behind a break at which it would be too long. */
+    private static Text fittingAgain(Text text) {
+        return text.box(600).glue(0, 0, 0, 0).box(600).glue(0, 0, 900, 0).box(100);
     }
 
     private static Text forced(int lines) {
