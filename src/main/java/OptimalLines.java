@@ -39,7 +39,7 @@ public final class OptimalLines {
     private final Search search;
     private final Layout layout;
 
-    /** All rows are made here, some 23,000 elements, so that no later call makes any. */
+    /** All rows are made here, some 25,000 elements, so that no later call makes any. */
     public OptimalLines() {
         items = new Items();
         lineWidths = new int[MOST_LINES + 1];

@@ -49,6 +49,8 @@ public final class FaceTest {
             if (!Modifier.isPrivate(method.getModifiers())) {
                 Check.same(method.getName(), Modifier.toString(method.getModifiers()), "public");
                 methods.add(describe(method));
+            } else {
+                checkOwnMethod(method);
             }
         }
         List<String> due = new ArrayList<>(FACE);
@@ -86,15 +88,19 @@ public final class FaceTest {
             Check.isTrue(one + " is static and not public",
                     modifiers.contains("static") && !modifiers.contains("public"));
             for (Method method : one.getDeclaredMethods()) {
-                Check.isTrue(method + " bears no name of the face",
-                        FACE.stream().noneMatch(m -> m.contains(" " + method.getName() + "(")));
-                Check.isTrue(method + " has at most seven parameters", method.getParameterCount() <= 7);
+                checkOwnMethod(method);
             }
             for (Field field : one.getDeclaredFields()) {
                 Check.isTrue(field + " is no changing static",
                         !Modifier.isStatic(field.getModifiers()) || Modifier.isFinal(field.getModifiers()));
             }
         }
+    }
+
+    private static void checkOwnMethod(Method method) {
+        Check.isTrue(method + " bears no name of the face",
+                FACE.stream().noneMatch(m -> m.contains(" " + method.getName() + "(")));
+        Check.isTrue(method + " has at most seven parameters", method.getParameterCount() <= 7);
     }
 
     private static void checkSource(String source) {

@@ -79,6 +79,12 @@ final class PassCases {
         new Text().box(500).flagged(0, Text.FORCED).box(500).breaksAt(3).passIs(1).linesOfItems(0, 0, 0);
     }
 
+    @Sentence(promise = 8, says = "First pass: flagged penalties are no breaks: only those")
+    static void firstPassIsForcedByPenaltiesThatAreNotFlagged() {
+        new Text().box(400).flagged(100, Text.FORCED).box(600).penalty(0, Text.FORCED).box(1000).breaksAt(3, 5)
+                .passIs(1).demeritsAre(200).linesOfItems(0, 0, 0, -1, 1).placesOfItems(0, 400, 400, -1, 0);
+    }
+
     @Sentence(promise = 8, says = "Second: all")
     static void flaggedPenaltyIsABreakInTheSecondPass() {
         new Text().set(Text.PRETOLERANCE, -1).filled(500).flagged(0, -9000).filled(500).breaksAt(3, 7).passIs(2)
